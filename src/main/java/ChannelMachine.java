@@ -9,6 +9,7 @@ public final class ChannelMachine {
     public static final int MORE = 1;
     public static final int HOST = 2;
 
+    private static final int BYTES = 8;
     private static final int TEXT_MOST = 72;
     private static final int FIRST_CHARACTER = 33;
     private static final int LAST_CHARACTER = 126;
@@ -50,10 +51,8 @@ public final class ChannelMachine {
     // Far above what the limits of text and acts allow; it only makes the end of a loop plain.
     private static final int FAR = 1000000;
 
-    private final char[] text = new char[TEXT_MOST];
-    private final Reader reader = new Reader(text);
+    private final Reader reader = new Reader();
     private final Machine machine = new Machine();
-    private int length = 0;
     private int place = NONE;
 
     public ChannelMachine() {
@@ -61,34 +60,33 @@ public final class ChannelMachine {
 
     public int type(long eight) throws IllegalArgumentException, IllegalStateException {
         int added = 0;
-        for (int i = 0; i < Long.BYTES; i++) {
+        for (int i = 0; i < BYTES; i++) {
             int one = byteAt(eight, i);
             if (one != 0 && (one < FIRST_CHARACTER || one > LAST_CHARACTER)) {
                 throw new IllegalArgumentException("not a character of a text");
             }
             added += one == 0 ? 0 : 1;
         }
-        if (length + added > TEXT_MOST) {
+        if (reader.length + added > TEXT_MOST) {
             throw new IllegalStateException("no room in the text");
         }
-        for (int i = 0; i < Long.BYTES; i++) {
+        for (int i = 0; i < BYTES; i++) {
             int one = byteAt(eight, i);
             if (one != 0) {
-                text[length] = (char) one;
-                length++;
+                reader.append((char) one);
             }
         }
-        return length;
+        return reader.length;
     }
 
     private static int byteAt(long eight, int index) {
-        return (int) (eight >>> (56 - 8 * index)) & 255;
+        return (int) (eight >>> 8 * (BYTES - 1 - index)) & 255;
     }
 
     public int load() throws IllegalArgumentException {
-        reader.start(length);
+        reader.start();
         boolean isProgram = reader.process(null, 1, false) && reader.isAtEnd();
-        length = 0;
+        reader.length = 0;
         if (!isProgram) {
             place = reader.place;
             throw new IllegalArgumentException("not a program");
@@ -288,25 +286,27 @@ public final class ChannelMachine {
         }
     }
 
-    /** Reads a text as a program; its methods answer whether what they read was there. */
+    /** Holds the text and reads it as a program; a method that reads answers whether that was there. */
     private static final class Reader {
-        private final char[] text;
+        private final char[] text = new char[TEXT_MOST];
         private final int[] code = new int[TEXT_MOST];
-        private int codeLength = 0;
         private int length = 0;
+        private int codeLength = 0;
         private int limit = 0;
         private int at = 0;
         private int place = 0;
         private int processes = 0;
         private Process program = null;
 
-        Reader(char[] text) {
-            this.text = text;
+        void append(char one) {
+            if (length < TEXT_MOST) {
+                text[length] = one;
+                length++;
+            }
         }
 
-        void start(int textLength) {
-            length = textLength;
-            limit = textLength;
+        void start() {
+            limit = length;
             at = 0;
             place = 0;
             processes = 0;
@@ -370,7 +370,7 @@ public final class ChannelMachine {
             return c >= 'A' && c <= 'D' ? c - 'A' : NONE;
         }
 
-        boolean process(Process parent, int depth, boolean guardMayFollow) {
+        private boolean process(Process parent, int depth, boolean guardMayFollow) {
             Process process = depth > PROCESS_DEPTH ? null : begin(parent, depth);
             if (process == null) {
                 return refuse();
@@ -574,7 +574,8 @@ public final class ChannelMachine {
             switch (level) {
                 case COMPARISON: return c == '<' || c == '=';
                 case SUM: return c == '+' || c == '-';
-                default: return c == '*' || c == '/' || c == '%';
+                case PRODUCT: return c == '*' || c == '/' || c == '%';
+                default: return false;
             }
         }
 
@@ -729,25 +730,32 @@ public final class ChannelMachine {
             }
         }
 
+        /** The CURRENT task WAITS: whatever ends that puts it back into the queue. */
+        private void pause() {
+            if (!queue.isEmpty()) {
+                queue.remove(0);
+            }
+        }
+
         private void resume(Task task) {
             task.goOn();
             queue.add(task);
         }
 
         private void growTime() {
-            long least = Long.MAX_VALUE;
+            long least = sleepers.isEmpty() ? time : sleepers.get(0).until;
             for (int i = 0; i < sleepers.size(); i++) {
                 least = Math.min(least, sleepers.get(i).until);
             }
             time = least;
-            int kept = 0;
-            for (int i = sleepers.size(); i > 0; i--) {
-                Task sleeper = sleepers.get(kept);
-                if (sleeper.until == least) {
-                    sleepers.remove(kept);
-                    resume(sleeper);
-                } else {
-                    kept++;
+            for (int i = 0; i < sleepers.size(); i++) {
+                if (sleepers.get(i).until == time) {
+                    resume(sleepers.get(i));
+                }
+            }
+            for (int i = sleepers.size() - 1; i >= 0; i--) {
+                if (sleepers.get(i).until == time) {
+                    sleepers.remove(i);
                 }
             }
         }
@@ -757,7 +765,7 @@ public final class ChannelMachine {
             Process process = task.at;
             switch (process.kind) {
                 case STOP:
-                    queue.remove(0);
+                    pause();
                     break;
                 case ASSIGNMENT:
                     assign(process.variable, evaluate(process.code));
@@ -817,7 +825,7 @@ public final class ChannelMachine {
             if (task.running == 0) {
                 task.goOn();
             } else {
-                queue.remove(0);
+                pause();
             }
         }
 
@@ -834,7 +842,7 @@ public final class ChannelMachine {
             } else {
                 task.value = value;
                 channel.sender = task;
-                queue.remove(0);
+                pause();
             }
         }
 
@@ -844,7 +852,7 @@ public final class ChannelMachine {
                 task.goOn();
             } else {
                 await(task, process.channel, process.variable, null);
-                queue.remove(0);
+                pause();
             }
         }
 
@@ -903,7 +911,7 @@ public final class ChannelMachine {
             if (duration > 0) {
                 task.until = time + duration;
                 sleepers.add(task);
-                queue.remove(0);
+                pause();
             } else {
                 task.goOn();
             }
@@ -924,7 +932,7 @@ public final class ChannelMachine {
                     await(task, guard.channel, guard.variable, guard.follow);
                 }
             }
-            queue.remove(0);
+            pause();
         }
 
         private void pass(Task task, Guard guard) {
@@ -938,7 +946,7 @@ public final class ChannelMachine {
             int size = 0;
             for (int i = 0; i < code.length && size < TEXT_MOST; i++) {
                 int one = code[i];
-                if (one >= VARIABLE_CODE) {
+                if (one >= VARIABLE_CODE && one < VARIABLE_CODE + VARIABLES) {
                     stack[size] = variables[one - VARIABLE_CODE];
                     size++;
                 } else if (one >= 0) {
