@@ -465,8 +465,7 @@ public final class ChannelMachine {
         }
 
         private boolean parts(Process whole, int depth, int most) {
-            int room = depth < PROCESS_DEPTH ? most : 0;
-            for (int i = 0; i < room && !isClosing(look()); i++) {
+            for (int i = 0; i < most && !isClosing(look()); i++) {
                 if (!process(whole, depth + 1, false)) {
                     return false;
                 }
@@ -538,14 +537,10 @@ public final class ChannelMachine {
             int begin = at;
             int end = length;
             for (int split = length - 1; guardMayFollow && split > begin && end == length; split--) {
-                int placeBefore = place;
-                limit = split;
                 at = begin;
+                limit = split;
                 boolean isWhole = expression() && at == split;
                 limit = length;
-                // That limit was a guess: what failed by it tells nothing of the text.
-                place = placeBefore;
-                at = split;
                 if (isWhole && expression() && expect('&')) {
                     end = split;
                 }
@@ -657,7 +652,6 @@ public final class ChannelMachine {
             acts = 0;
             time = 0;
             tasks = 1;
-            main.enter(main.whole);
             queue.add(main);
         }
 

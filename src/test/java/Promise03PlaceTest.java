@@ -3,7 +3,6 @@ import java.util.Deque;
 import java.util.HashMap;
 import java.util.HashSet;
 import java.util.Map;
-import java.util.Random;
 import java.util.Set;
 
 /**
@@ -13,17 +12,15 @@ import java.util.Set;
  */
 public final class Promise03PlaceTest {
     private static final int TEXTS = 3000;
-    private static final String SIGNS = "abfgABDEIO!?:.,,#(){}[]^@&&<=+--*/%0123456789";
     private static final Map<String, String[]> RULES = new HashMap<>();
     private static final Map<Character, String> SETS = new HashMap<>();
 
     public static void main(String[] args) {
         fillRules();
-        Random random = new Random(20261115);
+        RandomTexts texts = new RandomTexts(20261115);
         int programs = 0;
         for (int i = 0; i < TEXTS; i++) {
-            String text = changed(random, i % 3 == 0 ? alternative(random, 1) : process(random, 1));
-            programs += isRightPlace(text.substring(0, Math.min(72, text.length()))) ? 1 : 0;
+            programs += isRightPlace(texts.next()) ? 1 : 0;
         }
         if (programs < TEXTS / 6 || programs > TEXTS * 5 / 6) {
             Checks.fault("of " + TEXTS + " texts " + programs + " are programs: too few on one side");
@@ -137,62 +134,5 @@ public final class Promise03PlaceTest {
             due = opened(next);
         }
         return due.contains("") ? -1 : text.length();
-    }
-
-    private static String pick(Random random, String... all) {
-        return all[random.nextInt(all.length)];
-    }
-
-    private static String expression(Random random) {
-        String text = pick(random, "1", "12", "123", "a", "-b", "(1)", "-(a<2)", "((1))", "---1");
-        while (random.nextInt(3) == 0) {
-            text += pick(random, "+", "-", "-", "*", "/", "%", "<", "=", "") + pick(random, "1", "-2", "c", "(3)");
-        }
-        return text;
-    }
-
-    private static String process(Random random, int depth) {
-        if (depth > 8 || random.nextInt(3) == 0) {
-            return pick(random, "a:", "O!", "A!", "@") + expression(random);
-        }
-        switch (random.nextInt(8)) {
-            case 0: return pick(random, ".", "#", "I?a", "B?f", "()", "{}", "[]");
-            case 1: return "^" + expression(random) + "," + process(random, depth + 1);
-            case 2: return "?" + expression(random) + "," + process(random, depth + 1) + ","
-                    + process(random, depth + 1);
-            case 3: return "{" + parts(random, depth, 5) + "}";
-            case 4: return alternative(random, depth);
-            case 5: return "((((" + process(random, depth + 4) + "))))";
-            default: return "(" + parts(random, depth, 4) + ")";
-        }
-    }
-
-    private static String parts(Random random, int depth, int most) {
-        StringBuilder text = new StringBuilder();
-        for (int i = random.nextInt(most + 1); i > 0; i--) {
-            text.append(process(random, depth + 1));
-        }
-        return text.toString();
-    }
-
-    private static String alternative(Random random, int depth) {
-        StringBuilder text = new StringBuilder("[");
-        for (int i = random.nextInt(5); i >= 0; i--) {
-            text.append(expression(random)).append('&').append(pick(random, ".", "A?a", "I?b"));
-            text.append(',').append(process(random, depth + 2));
-        }
-        return text.append(']').toString();
-    }
-
-    private static String changed(Random random, String text) {
-        int at = random.nextInt(text.length());
-        String sign = String.valueOf(SIGNS.charAt(random.nextInt(SIGNS.length())));
-        switch (random.nextInt(6)) {
-            case 0: return text.substring(0, at);
-            case 1: return text.substring(0, at) + text.substring(at + 1);
-            case 2: return text.substring(0, at) + sign + text.substring(at);
-            case 3: return text.substring(0, at) + sign + text.substring(at + 1);
-            default: return text;
-        }
     }
 }

@@ -14,6 +14,11 @@ public final class Promise04TimeTest {
         x.due(ChannelMachine.ENDED, "run", 4);
         x.due(0, "count", 1);
         x.dueBox(1);
+        x.next("{(@0O!1)(@0-1O!2)O!3}", 8);
+        x.due(ChannelMachine.MORE, "run", 2);
+        x.dueTasks(3, 4, 0);
+        x.due(ChannelMachine.ENDED, "run", 9);
+        x.dueBox(1, 2, 3);
     }
 
     private static void growsOnlyWhenTheQueueIsEmpty() {
