@@ -316,12 +316,13 @@ public final class ChannelMachine {
             return at == length || refuse();
         }
 
+        /** The next character, or 0 behind the last one. */
         private char look() {
-            return characterAt(at);
+            return at < limit && at < TEXT_MOST ? text[at] : 0;
         }
 
-        private char characterAt(int index) {
-            return index >= 0 && index < limit && index < TEXT_MOST ? text[index] : 0;
+        private char lookBehindNext() {
+            return at + 1 < limit && at + 1 < TEXT_MOST ? text[at + 1] : 0;
         }
 
         /** The place is the farthest one refused: a reading that came less far was not the only one. */
@@ -404,7 +405,7 @@ public final class ChannelMachine {
         /** Reads the first character of a PROCESS; null if none begins with it here. */
         private Process begin(Process parent, int depth) {
             char first = look();
-            Kind kind = kindOf(first, characterAt(at + 1));
+            Kind kind = kindOf(first, lookBehindNext());
             boolean needsPart = kind == Kind.LOOP || kind == Kind.CONDITION;
             if (kind == null || needsPart && depth == PROCESS_DEPTH) {
                 return null;
