@@ -652,8 +652,20 @@ public final class ChannelMachine {
             box.size = 0;
             acts = 0;
             time = 0;
-            tasks = 1;
-            queue.add(main);
+            if (!start(main)) {
+                close(OVER);
+            }
+        }
+
+        /** Puts a new task into the queue; one without any ACT has ENDED already and is put nowhere. */
+        private boolean start(Task task) {
+            task.enter(task.whole);
+            if (task.findNext() != ACT) {
+                return false;
+            }
+            tasks++;
+            queue.add(task);
+            return true;
         }
 
         private void close(int newState) {
@@ -810,13 +822,10 @@ public final class ChannelMachine {
         private void makeTasks(Task task, Process parallel) {
             task.running = 0;
             for (Process part = parallel.first; part != null; part = part.next) {
-                part.task.enter(part);
-                if (part.task.findNext() == ACT) {
-                    queue.add(part.task);
+                if (start(part.task)) {
                     task.running++;
                 }
             }
-            tasks += task.running;
             if (task.running == 0) {
                 task.goOn();
             } else {

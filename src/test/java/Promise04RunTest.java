@@ -8,6 +8,7 @@ public final class Promise04RunTest {
         loopsYield();
         parallels();
         partsWithoutActs();
+        programWithoutActs();
         endsAndYieldsNeedNoAct();
         stop();
         stopsInOrder();
@@ -134,15 +135,31 @@ public final class Promise04RunTest {
         x.due(ChannelMachine.MORE, "run", 3);
         x.due(1, "take");
         x.due(ChannelMachine.ENDED, "run", 1);
-        x.next("()", 1);
-        x.due(1, "count", 7);
-        x.dueTasks(1, 1, 0);
-        x.due(ChannelMachine.ENDED, "run", 1);
-        x.due(0, "count", 4);
-        x.due(Checks.STATE, "run", 1);
         x.next("^1,()", 2);
         x.due(ChannelMachine.MORE, "run", 9);
         x.dueTasks(1, 1, 0);
+    }
+
+    private static void programWithoutActs() {
+        String[] without = {"()", "(())", "(()())", "(((()))(()()))", "((((((()))))))"};
+        int[] processes = {1, 2, 3, 7, 7};
+        Checks x = new Checks();
+        for (int i = 0; i < without.length; i++) {
+            x.next(without[i], processes[i]);
+            x.due(Checks.STATE, "run", 1);
+            x.due(Checks.STATE, "run", 200);
+            x.due(Checks.BAD, "run", 0);
+            x.due(0, "count", 4);
+        }
+        x.next("(()(.))", 4);
+        x.due(ChannelMachine.ENDED, "run", 1);
+        x.next("{}", 1);
+        x.due(ChannelMachine.ENDED, "run", 1);
+        x.next("{()}", 2);
+        x.due(ChannelMachine.ENDED, "run", 1);
+        x.next("[]", 1);
+        x.due(ChannelMachine.MORE, "run", 1);
+        x.due(Checks.STATE, "run", 1);
     }
 
     private static void endsAndYieldsNeedNoAct() {

@@ -23,6 +23,11 @@ public final class Promise05GiveTest {
         x.due(Checks.STATE, "run", 2);
         x.due(Checks.STATE, "give", 1);
         x.due(1, "count", 5);
+        x.next("(()())", 3);
+        x.due(Checks.STATE, "give", 1);
+        x.due(0, "count", 5);
+        x.next("(()(.))", 4);
+        x.due(1, "give", 1);
     }
 
     private static void eightAtMost() {

@@ -5,6 +5,7 @@ public final class Promise10CountTest {
         place();
         all();
         overAndBroken();
+        overWhenLoaded();
         Checks.end();
     }
 
@@ -70,5 +71,27 @@ public final class Promise10CountTest {
         x.due(1, "give", 5);
         x.due(ChannelMachine.ENDED, "run", 9);
         dueCounts(x, -1, 0, 0, 0, 2, 1, 2, 2, 0);
+    }
+
+    private static void overWhenLoaded() {
+        Checks x = Checks.program("()", 1);
+        dueCounts(x, -1, 0, 0, 0, 0, 0, 0, 2, 0);
+        x.next("{(@3O!1)@9A?aB!1}", 7);
+        dueCounts(x, -1, 0, 1, 1, 0, 0, 0, 1, 0);
+        x.due(1, "give", 5);
+        x.due(ChannelMachine.MORE, "run", 6);
+        dueCounts(x, -1, 3, 0, 4, 6, 1, 1, 1, 1);
+        x.dueChannels(1, 2, 0, 0, 0, 0);
+        x.due(0, "set", 0, 7);
+        x.next("(()())", 3);
+        dueCounts(x, -1, 0, 0, 0, 0, 0, 0, 2, 0);
+        x.dueChannels(0, 0, 0, 0, 0, 0);
+        x.dueVariables(0, 0, 0, 0, 0, 0);
+        x.dueBox();
+        x.typeText("(");
+        x.due(Checks.BAD, "load");
+        dueCounts(x, 1, 0, 0, 0, 0, 0, 0, 2, 0);
+        x.next("(().)", 3);
+        dueCounts(x, 1, 0, 1, 1, 0, 0, 0, 1, 0);
     }
 }
