@@ -9,10 +9,14 @@ final class Checks {
     static final String ARITHMETIC = "ArithmeticException";
     static final String NO_ELEMENT = "NoSuchElementException";
 
+    /** So many calls of one object are promised; a test that makes more tells nothing. */
+    private static final int CALLS_MOST = 512;
+
     private static int wrong = 0;
 
-    ChannelMachine machine = new ChannelMachine();
+    private final ChannelMachine machine = new ChannelMachine();
     private final List<String> calls = new ArrayList<>();
+    private int callsMade = 0;
 
     /** Ends the test's program: with exit code 1 if an answer was wrong. */
     static void end() {
@@ -48,6 +52,7 @@ final class Checks {
     }
 
     private long answerNumber(String call, long[] numbers) {
+        countCall();
         switch (call) {
             case "type": return machine.type(numbers[0]);
             case "load": return machine.load();
@@ -60,6 +65,18 @@ final class Checks {
             case "count": return machine.count((int) numbers[0]);
             default: throw new AssertionError(call);
         }
+    }
+
+    private void countCall() {
+        callsMade++;
+        if (callsMade == CALLS_MOST + 1) {
+            fault("a test makes more than " + CALLS_MOST + " calls of one object");
+        }
+    }
+
+    /** One call that answers a number. */
+    int number(String call, long... numbers) {
+        return Integer.parseInt(answer(call, numbers));
     }
 
     private void compare(String got, String due) {
@@ -80,6 +97,7 @@ final class Checks {
     void typeText(String text) {
         calls.add("\"" + text + "\"");
         for (int i = 0; i < text.length(); i += 8) {
+            countCall();
             machine.type(eightOf(text, i));
         }
     }

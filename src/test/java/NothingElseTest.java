@@ -2,14 +2,16 @@ import java.util.Random;
 
 /** All promises: random calls throw nothing but what the document says, and the counts fit together. */
 public final class NothingElseTest {
-    private static final int MACHINES = 300;
+    private static final int MACHINES = 500;
+    private static final int PROGRAMS = 3;
     private static final int CALLS = 40;
+    private static final int CALLS_BETWEEN_COUNTS = 4;
 
     public static void main(String[] args) {
         RandomTexts texts = new RandomTexts(512);
         for (int i = 0; i < MACHINES; i++) {
             Checks x = new Checks();
-            for (int program = 0; program < 5; program++) {
+            for (int program = 0; program < PROGRAMS; program++) {
                 x.typeText(texts.next());
                 isAllowed(x, Checks.BAD, "load");
                 callAtRandom(x, texts.random);
@@ -39,21 +41,25 @@ public final class NothingElseTest {
                     isAllowed(x, Checks.BAD + Checks.STATE + Checks.ARITHMETIC, "run", random.nextInt(30));
                     break;
             }
-            countsFit(x.machine);
+            if (i % CALLS_BETWEEN_COUNTS == 0) {
+                countsFit(x);
+            }
         }
     }
 
-    private static void countsFit(ChannelMachine machine) {
-        int queued = machine.count(2);
-        int all = machine.count(3);
-        int sleeping = machine.count(8);
-        boolean isToBeRun = machine.count(7) == 1;
-        boolean fits = queued + sleeping <= all && (all > 0) == isToBeRun
-                && machine.count(5) <= 8 && machine.count(6) <= 8
-                && (machine.channel(5) == 0 || machine.count(6) == 8)
-                && (machine.channel(4) == 0 || machine.count(5) == 0);
+    private static void countsFit(Checks x) {
+        int queued = x.number("count", 2);
+        int all = x.number("count", 3);
+        int gifts = x.number("count", 5);
+        int values = x.number("count", 6);
+        boolean isToBeRun = x.number("count", 7) == 1;
+        int sleeping = x.number("count", 8);
+        boolean fits = queued + sleeping <= all && (all > 0) == isToBeRun && gifts <= 8 && values <= 8
+                && (x.number("channel", 5) == 0 || values == 8)
+                && (x.number("channel", 4) == 0 || gifts == 0);
         if (!fits) {
-            Checks.fault("the counts do not fit: queue " + queued + ", tasks " + all + ", sleeping " + sleeping);
+            Checks.fault("the counts do not fit: queue " + queued + ", tasks " + all + ", sleeping " + sleeping
+                    + ", gifts " + gifts + ", values in the box " + values);
         }
     }
 }

@@ -2,11 +2,15 @@ import java.util.NoSuchElementException;
 import java.util.Random;
 import java.util.function.IntSupplier;
 
-/** Promises 3 to 11: random runs of random programs, each answer and the whole state beside a second machine's. */
+/**
+ * Promises 3 to 11: random runs of random programs, each answer and now and then the whole state beside a
+ * second machine's. Another seed and number of machines may be given.
+ */
 public final class SecondMachineTest {
-    private static final int MACHINES = 500;
-    private static final int PROGRAMS = 4;
+    private static final int MACHINES = 2000;
+    private static final int PROGRAMS = 3;
     private static final int CALLS = 24;
+    private static final int CALLS_BETWEEN_STATES = 5;
 
     private final Checks x = new Checks();
     private final SecondMachine second = new SecondMachine();
@@ -46,7 +50,9 @@ public final class SecondMachineTest {
                     break;
                 default: x.due(answerOf(() -> second.run(acts)), "run", acts); break;
             }
-            sameState();
+            if (i % CALLS_BETWEEN_STATES == 0) {
+                sameState();
+            }
         }
     }
 
